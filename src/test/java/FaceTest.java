@@ -1,0 +1,67 @@
+import java.lang.reflect.Field;
+import java.lang.reflect.Method;
+import java.lang.reflect.Modifier;
+import java.util.Arrays;
+import java.util.Set;
+import java.util.TreeSet;
+
+/** The face of the class is the document's, and nothing else can be seen of it (rules 1 and 5 of LANGUAGE.md). */
+public final class FaceTest {
+    private static final String[] FACE = {
+        "int part(int)", "int type(int,int)", "int layout(int,int)", "int fits(int,int)", "int instance()",
+        "int function(int,int,int)", "void write(int,int,int,long)", "int read(int,int)", "void enter(int)",
+        "void leave()", "int make(int)", "boolean drop(int)", "int handle(int,int,int)", "int call(int,int,int)",
+        "int back(int,int)", "void trap()", "int passed()", "int depth()", "int level(int)", "int state(int,int)",
+        "int close(int)", "int resources(int,boolean)", "int latest(int)",
+    };
+
+    public static void main(String[] args) {
+        Checks c = new Checks();
+        Class<?> face = HostedCalls.class;
+        c.due("public final", Modifier.isPublic(face.getModifiers()) && Modifier.isFinal(face.getModifiers()), true);
+        c.due("NONE", HostedCalls.NONE, -1);
+        c.due("constructors", face.getDeclaredConstructors().length, 1);
+        c.due("public constructors", face.getConstructors().length, 1);
+        methodsAreDue(c, face);
+        for (Field field : face.getDeclaredFields()) {
+            boolean open = !Modifier.isPrivate(field.getModifiers());
+            c.due("open field " + field, open, field.getName().equals("NONE"));
+            fieldIsDue(c, field);
+        }
+        for (Class<?> inside : face.getDeclaredClasses()) {
+            c.due("static " + inside, Modifier.isStatic(inside.getModifiers()), true);
+            c.due("hidden " + inside, Modifier.isPublic(inside.getModifiers()), false);
+            for (Field field : inside.getDeclaredFields()) {
+                fieldIsDue(c, field);
+            }
+        }
+        c.due("classes", face.getDeclaredClasses().length <= 12, true);
+        c.end();
+    }
+
+    private static void methodsAreDue(Checks c, Class<?> face) {
+        Set<String> due = new TreeSet<>(Arrays.asList(FACE));
+        Set<String> names = new TreeSet<>();
+        for (String method : FACE) {
+            names.add(method.substring(method.indexOf(' ') + 1, method.indexOf('(')));
+        }
+        for (Method method : face.getDeclaredMethods()) {
+            String types = Arrays.toString(method.getParameterTypes()).replaceAll("[\\[\\] ]", "");
+            String told = method.getReturnType() + " " + method.getName() + "(" + types + ")";
+            if (Modifier.isPrivate(method.getModifiers())) {
+                c.due("a private method has a public name: " + told, names.contains(method.getName()), false);
+            } else {
+                c.due("of the face: " + told, due.remove(told), true);
+            }
+        }
+        for (String missing : due) {
+            c.tell("there is no " + missing);
+        }
+    }
+
+    private static void fieldIsDue(Checks c, Field field) {
+        if (Modifier.isStatic(field.getModifiers())) {
+            c.due("final " + field, Modifier.isFinal(field.getModifiers()), true);
+        }
+    }
+}
