@@ -215,7 +215,7 @@ public final class HostedCalls {
         if (number == NONE) {
             throw new UnsupportedOperationException("all handles are in use");
         }
-        maker.handles[number - 1].use(resourcesMade, kind, Holding.OWNED);
+        maker.handles[number - 1].use(resourcesMade, kind, Holding.OWNED, null);
         resourcesMade++;
         living[kind]++;
         return number;
@@ -613,12 +613,12 @@ public final class HostedCalls {
         /** The handle that this one is lent from, if it is LENT. */
         Handle lender = null;
 
-        void use(int newResource, int newKind, Holding newHolding) {
+        void use(int newResource, int newKind, Holding newHolding, Handle newLender) {
             resource = newResource;
             kind = newKind;
             holding = newHolding;
+            lender = newLender;
             loans = 0;
-            lender = null;
         }
 
         void endLoan() {
@@ -626,7 +626,6 @@ public final class HostedCalls {
             if (lender != null) {
                 lender.loans--;
             }
-            lender = null;
         }
     }
 
@@ -699,7 +698,6 @@ public final class HostedCalls {
             changeHoldings(Holding.TAKEN, Holding.OWNED);
             for (int h = 0; h < MOST_HANDLES; h++) {
                 handles[h].loans = 0;
-                handles[h].lender = null;
             }
         }
     }
@@ -1039,9 +1037,10 @@ public final class HostedCalls {
             }
             Handle given = sender.handles[(int) items.numbers[item] - 1];
             Handle got = receiver.handles[number - 1];
-            got.use(given.resource, given.kind, u.kind == OWN ? Holding.ARRIVING : Holding.LENT);
-            if (u.kind == BORROW) {
-                got.lender = given;
+            if (u.kind == OWN) {
+                got.use(given.resource, given.kind, Holding.ARRIVING, null);
+            } else {
+                got.use(given.resource, given.kind, Holding.LENT, given);
             }
             receiver.storeBytes(at, 1, number);
             return true;

@@ -5,6 +5,7 @@ public final class BackTest {
     public static void main(String[] args) {
         backRefusesInOrder();
         backPassesTheResult();
+        backKnowsTheFunctionOfTheTop();
         backEndsTheLoansOfTheCall();
         backMovesWhatIsOwned();
         backTrapsForTheTop();
@@ -47,6 +48,22 @@ public final class BackTest {
         w.x.back(narrow, 16);
         C.due("the next result lies behind the first", w.x.passed(), 129);
         C.due("a's heap", w.x.state(w.a, 1), 130);
+    }
+
+    private static void backKnowsTheFunctionOfTheTop() {
+        World w = new World();
+        int third = w.x.instance();
+        int[] functions = {w.function(World.FLAG, World.SHORT), w.function(World.FLAG, World.WORD),
+            w.x.function(third, World.FLAG, World.BYTE), w.x.function(third, World.FLAG, World.LETTER)};
+        w.x.enter(w.a);
+        w.x.call(functions[1], World.FLAG, 0);
+        w.x.call(functions[3], World.FLAG, 0);
+        C.refused("not that of the third one's other function", Checks.UNSUPPORTED, () -> w.x.back(World.BYTE, 0));
+        C.refused("not that of the one below", Checks.UNSUPPORTED, () -> w.x.back(World.WORD, 0));
+        C.due("back from the third one", w.x.back(World.LETTER, 0), 0);
+        C.refused("not that of the call that ended", Checks.UNSUPPORTED, () -> w.x.back(World.LETTER, 0));
+        C.refused("not that of b's other function", Checks.UNSUPPORTED, () -> w.x.back(World.SHORT, 0));
+        C.due("back from b", w.x.back(World.WORD, 0), 0);
     }
 
     private static void backEndsTheLoansOfTheCall() {

@@ -297,6 +297,13 @@ public final class CallTest {
             w.put(w.a, 33, row[1]);
             trapIs(w, "type " + row[0] + " of handle " + row[1], w.callWith(row[0], 33), row[2], 33);
         }
+        World last = new World();
+        last.x.enter(last.a);
+        for (int h = 1; h <= 16; h++) {
+            last.x.make(0);
+        }
+        last.put(last.a, 33, 16);
+        trapIs(last, "the last handle", last.callWith(World.OWN_0, 33), 0, 0);
         pairIs(World.OWN_0, World.OWN_0, 6);
         pairIs(World.OWN_0, World.BORROW_0, 6);
         pairIs(World.BORROW_0, World.OWN_0, 9);

@@ -105,6 +105,15 @@ public final class TypesTest {
         w.x.part(World.FLAG);
         C.refused("a byte more", Checks.ARGUMENT, () -> w.x.type(9, 0));
         C.due("as a variant", w.x.layout(w.x.type(10, 0), 1), 56);
+        int six = w.record(World.BYTE, World.FLAG, World.BYTE, World.FLAG, World.BYTE, World.FLAG);
+        int most = w.record(six, six, six, six, six, six);
+        int rest = w.record(six, six, six, six);
+        C.due("96 single bytes", w.x.layout(w.record(most, most, rest), 1), 96);
+        w.x.part(most);
+        w.x.part(most);
+        w.x.part(rest);
+        w.x.part(World.FLAG);
+        C.refused("97 single bytes", Checks.ARGUMENT, () -> w.x.type(9, 0));
     }
 
     private static void layoutOfKindsWithoutParts() {
