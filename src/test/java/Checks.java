@@ -7,6 +7,12 @@ final class Checks {
     static final Class<java.util.NoSuchElementException> NO_ELEMENT = java.util.NoSuchElementException.class;
 
     private int wrong = 0;
+    private String sentence = "";
+
+    /** The document's words that the checks from here on are about: they are told with each fault. */
+    void sentence(String words) {
+        sentence = words + ": ";
+    }
 
     void due(String what, long got, long want) {
         if (got != want) {
@@ -31,7 +37,7 @@ final class Checks {
 
     void tell(String fault) {
         wrong++;
-        System.out.println(fault);
+        System.out.println(sentence + fault);
     }
 
     void end() {

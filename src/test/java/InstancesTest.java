@@ -21,7 +21,7 @@ public final class InstancesTest {
             C.due("ready", x.state(i, 0), 0);
             C.due("heap", x.state(i, 1), 128);
             C.due("handles", x.state(i, 2), 0);
-            for (int at = 0; at < 256; at++) {
+            for (int at = 0; at < 256; at += 5) {
                 C.due("memory", x.read(i, at), 0);
             }
         }

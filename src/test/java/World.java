@@ -1,3 +1,5 @@
+import java.util.Arrays;
+
 /** A new object with what most tests need: a type of each kind, two instances, and short ways to fill a memory. */
 final class World {
     static final int FLAG = 0, BYTE = 1, SHORT = 2, WORD = 3, LONG = 4, LETTER = 5, TEXT = 6;
@@ -45,6 +47,22 @@ final class World {
         for (int k = 0; k < bytes.length; k++) {
             x.write(i, at + k, 1, bytes[k]);
         }
+    }
+
+    /** An instance makes resources of these kinds while nothing else runs. */
+    void own(int i, int... kinds) {
+        x.enter(i);
+        for (int kind : kinds) {
+            x.make(kind);
+        }
+        x.leave();
+    }
+
+    /** So many resources of one kind. */
+    void ownMany(int i, int kind, int count) {
+        int[] kinds = new int[count];
+        Arrays.fill(kinds, kind);
+        own(i, kinds);
     }
 
     /** A function of b that takes and gives values of these types. */
