@@ -7,7 +7,11 @@ import java.util.Random;
 import java.util.TreeMap;
 import java.util.function.LongSupplier;
 
-/** Long runs of calls, the same ones every time, on an object and on the model: each answer and all that can be asked. */
+/**
+ * Long runs of calls, the same ones every time, on an object and on the model: each answer and all that can be asked.
+ * The questions go far beyond 512 calls, behind which the document leaves the answers free: this class counts no calls,
+ * so what it answers to them tells of the run. The tests of single sentences keep to 512.
+ */
 public final class ModelTest {
     private static final int RUNS = 3000;
     private static final int CALLS = 512;
