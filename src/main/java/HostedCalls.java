@@ -727,7 +727,7 @@ public final class HostedCalls {
         }
 
         /** Calls itself for the parts; a type is 5 deep at most, and so is this. */
-        boolean readsItem(Type t, Type u, int at) {
+        private boolean readsItem(Type t, Type u, int at) {
             if (items.count >= MOST_ITEMS) {
                 return trap.springs(TOO_MANY_ITEMS, at);
             }
