@@ -546,19 +546,26 @@ public final class HostedCalls {
             }
             depth = deepest + 1;
             hasBorrow = borrows;
-            boolean laidByParts = kind == RECORD || kind == VARIANT;
-            alignment = laidByParts ? widest : ALIGNMENTS[kind];
-            size = laidByParts ? alignedFrom(placeParts(kind, widest, parts, offsets), widest) : SIZES[kind];
-        }
-
-        /** Fills in the offsets, and answers the place behind the part that reaches farthest. */
-        private static int placeParts(int kind, int widest, Type[] parts, int[] offsets) {
             int end = 0;
-            for (int k = 0; k < parts.length; k++) {
-                offsets[k] = kind == RECORD ? alignedFrom(end, parts[k].alignment) : widest;
+            for (int k = 0; k < draftCount; k++) {
+                offsets[k] = offsetBehind(end, kind, widest, parts[k].alignment);
                 end = Math.max(end, offsets[k] + parts[k].size);
             }
-            return end;
+            boolean laidByParts = kind == RECORD || kind == VARIANT;
+            alignment = laidByParts ? widest : ALIGNMENTS[kind];
+            size = laidByParts ? alignedFrom(end, widest) : SIZES[kind];
+        }
+
+        /** Where a part lies; that of a list lies elsewhere in the memory, at the start of a room of its own. */
+        private static int offsetBehind(int end, int kind, int widest, int partAlignment) {
+            switch (kind) {
+                case RECORD:
+                    return alignedFrom(end, partAlignment);
+                case VARIANT:
+                    return widest;
+                default:
+                    return 0;
+            }
         }
 
         boolean fitsWithoutParts(Type u) {
@@ -739,9 +746,9 @@ public final class HostedCalls {
             items.places[item] = at;
             switch (t.kind) {
                 case TEXT:
-                    return readsText(item, at);
+                    return readsPlaceAndCount(item, at) && readsText(item);
                 case LIST:
-                    return readsList(item, t, u, at);
+                    return readsPlaceAndCount(item, at) && readsList(item, t.parts[0], u.parts[0]);
                 case RECORD:
                     return readsRecord(t, u, at);
                 case VARIANT:
@@ -788,22 +795,17 @@ public final class HostedCalls {
             return true;
         }
 
+        /** Two bytes each, so that the four of them are one number of both. */
         private boolean readsPlaceAndCount(int item, int at) {
-            if (!readsBytes(at, 2)) {
+            if (!readsBytes(at, 4)) {
                 return false;
             }
-            items.numbers[item] = bytes;
-            if (!readsBytes(at + 2, 2)) {
-                return false;
-            }
-            items.counts[item] = (int) bytes;
+            items.numbers[item] = bytes & 65535;
+            items.counts[item] = (int) (bytes >>> 16);
             return true;
         }
 
-        private boolean readsText(int item, int at) {
-            if (!readsPlaceAndCount(item, at)) {
-                return false;
-            }
+        private boolean readsText(int item) {
             int place = (int) items.numbers[item];
             int end = place + items.counts[item];
             while (place < end) {
@@ -863,14 +865,10 @@ public final class HostedCalls {
             return k == 1 && first == 244 ? 143 : 191;
         }
 
-        private boolean readsList(int item, Type t, Type u, int at) {
-            if (!readsPlaceAndCount(item, at)) {
-                return false;
-            }
-            Type part = t.parts[0];
+        private boolean readsList(int item, Type part, Type fitted) {
             int place = (int) items.numbers[item];
             for (int k = 0; k < items.counts[item]; k++) {
-                if (!readsItem(part, u.parts[0], place + k * part.size)) {
+                if (!readsItem(part, fitted, place + k * part.size)) {
                     return false;
                 }
             }
@@ -981,9 +979,9 @@ public final class HostedCalls {
             }
         }
 
-        private void writePlaceAndCount(int at, int place, int count) {
-            receiver.storeBytes(at, 2, place);
-            receiver.storeBytes(at + 2, 2, count);
+        /** The other way round of what the reader does with these four bytes. */
+        private static long placeAndCount(int place, int count) {
+            return (long) count << 16 | place;
         }
 
         private boolean writesText(int item, int at) {
@@ -992,7 +990,7 @@ public final class HostedCalls {
             if (place == NONE) {
                 return false;
             }
-            writePlaceAndCount(at, place, count);
+            receiver.storeBytes(at, 4, placeAndCount(place, count));
             int source = (int) items.numbers[item];
             for (int k = 0; k < count; k++) {
                 receiver.memory[place + k] = sender.memory[source + k];
@@ -1006,7 +1004,7 @@ public final class HostedCalls {
             if (place == NONE) {
                 return false;
             }
-            writePlaceAndCount(at, place, count);
+            receiver.storeBytes(at, 4, placeAndCount(place, count));
             for (int k = 0; k < count; k++) {
                 if (!writesItem(part, place + k * part.size)) {
                     return false;
