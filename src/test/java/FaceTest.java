@@ -7,12 +7,31 @@ import java.util.TreeSet;
 
 /** The face of the class is the document's, and nothing else can be seen of it (rules 1 and 5 of LANGUAGE.md). */
 public final class FaceTest {
+    /** Each method with the exceptions that it lists, in their order. */
     private static final String[] FACE = {
-        "int part(int)", "int type(int,int)", "int layout(int,int)", "int fits(int,int)", "int instance()",
-        "int function(int,int,int)", "void write(int,int,int,long)", "int read(int,int)", "void enter(int)",
-        "void leave()", "int make(int)", "boolean drop(int)", "int handle(int,int,int)", "int call(int,int,int)",
-        "int back(int,int)", "void trap()", "int passed()", "int depth()", "int level(int)", "int state(int,int)",
-        "int close(int)", "int resources(int,boolean)", "int latest(int)",
+        "int part(int) IllegalArgument IllegalState",
+        "int type(int,int) IllegalArgument IllegalState",
+        "int layout(int,int) IllegalArgument IndexOutOfBounds",
+        "int fits(int,int) IllegalArgument",
+        "int instance() IllegalState",
+        "int function(int,int,int) IllegalArgument UnsupportedOperation IllegalState",
+        "void write(int,int,int,long) IllegalArgument IndexOutOfBounds",
+        "int read(int,int) IllegalArgument IndexOutOfBounds",
+        "void enter(int) IllegalArgument IllegalState",
+        "void leave() IllegalState",
+        "int make(int) IllegalState IllegalArgument UnsupportedOperation",
+        "boolean drop(int) IllegalState NoSuchElement UnsupportedOperation",
+        "int handle(int,int,int) IllegalArgument",
+        "int call(int,int,int) IllegalState IllegalArgument UnsupportedOperation NoSuchElement",
+        "int back(int,int) IllegalState IllegalArgument UnsupportedOperation",
+        "void trap() IllegalState",
+        "int passed()",
+        "int depth()",
+        "int level(int)",
+        "int state(int,int) IllegalArgument",
+        "int close(int) IllegalArgument IllegalState",
+        "int resources(int,boolean) IllegalArgument",
+        "int latest(int) IllegalArgument",
     };
 
     public static void main(String[] args) {
@@ -46,8 +65,7 @@ public final class FaceTest {
             names.add(method.substring(method.indexOf(' ') + 1, method.indexOf('(')));
         }
         for (Method method : face.getDeclaredMethods()) {
-            String types = Arrays.toString(method.getParameterTypes()).replaceAll("[\\[\\] ]", "");
-            String told = method.getReturnType() + " " + method.getName() + "(" + types + ")";
+            String told = told(method);
             if (Modifier.isPrivate(method.getModifiers())) {
                 c.due("a private method has a public name: " + told, names.contains(method.getName()), false);
             } else {
@@ -57,6 +75,15 @@ public final class FaceTest {
         for (String missing : due) {
             c.tell("there is no " + missing);
         }
+    }
+
+    private static String told(Method method) {
+        String types = Arrays.toString(method.getParameterTypes()).replaceAll("[\\[\\] ]", "");
+        String told = method.getReturnType() + " " + method.getName() + "(" + types + ")";
+        for (Class<?> exception : method.getExceptionTypes()) {
+            told += " " + exception.getSimpleName().replace("Exception", "");
+        }
+        return told;
     }
 
     private static void fieldIsDue(Checks c, Field field) {

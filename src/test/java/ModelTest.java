@@ -1,40 +1,46 @@
-import java.util.ArrayDeque;
 import java.util.ArrayList;
-import java.util.Deque;
 import java.util.List;
 import java.util.Map;
 import java.util.Random;
 import java.util.TreeMap;
+import java.util.function.Consumer;
 import java.util.function.LongSupplier;
+import java.util.function.ToLongFunction;
 
 /**
- * Long runs of calls, the same ones every time, on an object and on the model: each answer and all that can be asked.
- * The questions go far beyond 512 calls, behind which the document leaves the answers free: this class counts no calls,
- * so what it answers to them tells of the run. The tests of single sentences keep to 512.
+ * Long runs of calls, the same ones every time. The model tells what is due to each call of a run, and to all that can
+ * be asked behind it; the run is gone through on a new object for as many questions as 512 calls leave room for.
  */
 public final class ModelTest {
     private static final int RUNS = 3000;
-    private static final int CALLS = 512;
+    private static final int MOST_CALLS = 512;
+    /** So that there is room for questions behind the longest run. */
+    private static final int LONGEST_RUN = 470;
     private static final Map<String, Integer> SEEN = new TreeMap<>();
 
-    private final HostedCalls x = new HostedCalls();
+    record Call(String told, ToLongFunction<HostedCalls> real, long due) { }
+
     private final Model m = new Model();
     private final Random random;
-    private final int run;
-    private final Deque<String> told = new ArrayDeque<>();
-    private int calls = 0;
+    private final int number;
+    private final int length;
+    private final List<Call> run = new ArrayList<>();
+    private final List<Call> questions = new ArrayList<>();
     private int free = 0;
-    private boolean same = true;
 
-    private ModelTest(int run) {
-        this.run = run;
-        random = new Random(run);
+    private ModelTest(int number) {
+        this.number = number;
+        random = new Random(number);
+        length = LONGEST_RUN - random.nextInt(300);
     }
 
     public static void main(String[] args) {
         int wrong = 0;
-        for (int run = 0; run < RUNS && wrong < 3; run++) {
-            wrong += new ModelTest(run).isSame() ? 0 : 1;
+        for (int number = 0; number < RUNS && wrong < 3; number++) {
+            ModelTest test = new ModelTest(number);
+            test.makeRun();
+            test.askAll();
+            wrong += test.isSame() ? 0 : 1;
         }
         wrong += wasSeen() ? 0 : 1;
         if (wrong != 0) {
@@ -65,29 +71,29 @@ public final class ModelTest {
     }
 
     private boolean isSame() {
-        makeTypes();
-        for (int k = 0; k < 4 + random.nextInt(3); k++) {
-            instance();
-        }
-        for (int k = 0; k < 13; k++) {
-            int i = any(6);
-            int argument = anyType();
-            int result = anyType();
-            both("function(" + i + ", " + argument + ", " + result + ")", () -> x.function(i, argument, result),
-                    () -> m.function(i, argument, result));
-        }
-        while (calls < CALLS && same && m.instances.stream().anyMatch(i -> i.state < 2)) {
-            step();
-            if (calls % 8 == 0) {
-                compareAll();
+        int bundle = MOST_CALLS - run.size();
+        for (int from = 0; from < questions.size(); from += bundle) {
+            HostedCalls x = new HostedCalls();
+            List<Call> asked = questions.subList(from, Math.min(from + bundle, questions.size()));
+            if (!goesThrough(x, run) || !goesThrough(x, asked)) {
+                return false;
             }
         }
-        compareAll();
-        return same;
+        return true;
     }
 
-    private void instance() {
-        both("instance()", x::instance, m::instance);
+    private boolean goesThrough(HostedCalls x, List<Call> calls) {
+        for (int k = 0; k < calls.size(); k++) {
+            Call call = calls.get(k);
+            long got = answer(() -> call.real.applyAsLong(x));
+            if (got != call.due) {
+                System.out.println("run " + number + ": " + call.told + " answered " + got + ", due is " + call.due);
+                List<Call> before = calls == run ? run.subList(0, k) : run;
+                before.forEach(one -> System.out.println("  " + one.told + " -> " + one.due));
+                return false;
+            }
+        }
+        return true;
     }
 
     private static long answer(LongSupplier call) {
@@ -98,21 +104,54 @@ public final class ModelTest {
         }
     }
 
-    private long both(String call, LongSupplier real, LongSupplier model) {
-        calls++;
-        long due = answer(model);
-        long got = answer(real);
-        told.addLast(call + " -> " + due);
-        if (told.size() > 60) {
-            told.removeFirst();
+    private boolean hasRoom() {
+        return run.size() < length;
+    }
+
+    /** The next call of the run, if there is room for it. */
+    private void next(String call, ToLongFunction<HostedCalls> real, LongSupplier model) {
+        if (hasRoom()) {
+            long due = answer(model);
+            run.add(new Call(call, real, due));
+            SEEN.merge(call.substring(0, call.indexOf('(')) + " " + due, 1, Integer::sum);
         }
-        if (got != due && same) {
-            same = false;
-            System.out.println("run " + run + ", call " + calls + ": answered " + got + ", due is " + due);
-            told.forEach(System.out::println);
+    }
+
+    /** A call without an answer. */
+    private void nextWithout(String call, Consumer<HostedCalls> real, Runnable model) {
+        next(call, x -> {
+            real.accept(x);
+            return 0;
+        }, () -> {
+            model.run();
+            return 0;
+        });
+    }
+
+    private void makeRun() {
+        makeTypes();
+        for (int k = 0; k < 4 + random.nextInt(3); k++) {
+            instance();
         }
-        SEEN.merge(call.substring(0, call.indexOf('(')) + " " + due, 1, Integer::sum);
-        return due;
+        for (int k = 0; k < 13; k++) {
+            int i = any(6);
+            int argument = anyType();
+            int result = anyType();
+            next("function(" + i + ", " + argument + ", " + result + ")", x -> x.function(i, argument, result),
+                    () -> m.function(i, argument, result));
+        }
+        // A step may add nothing, so they are counted, too.
+        for (int k = 0; k < 4 * MOST_CALLS && hasRoom() && wellOnes() > 1; k++) {
+            step();
+        }
+    }
+
+    private long wellOnes() {
+        return m.instances.stream().filter(i -> i.state < 2).count();
+    }
+
+    private void instance() {
+        next("instance()", x -> x.instance(), m::instance);
     }
 
     private int any(int n) {
@@ -124,50 +163,60 @@ public final class ModelTest {
     }
 
     private void makeTypes() {
-        int[] simple = {11, 12, 0, 6, 7, 1 + random.nextInt(5), 11, 12};
+        int[] simple = {11, 12, 0, 6, 7, 7, 1 + random.nextInt(5), 11, 12};
         for (int kind : simple) {
             int n = kind == 7 ? 1 + random.nextInt(5) : random.nextInt(kind >= 11 ? 2 : 4);
-            both("type(" + kind + ", " + n + ")", () -> x.type(kind, n), () -> m.type(kind, n));
+            next("type(" + kind + ", " + n + ")", x -> x.type(kind, n), () -> m.type(kind, n));
         }
-        for (int k = 0; k < 34; k++) {
-            int kind = random.nextInt(5) == 0 ? any(13) : 8 + random.nextInt(3);
-            int parts = kind == 8 ? 1 : kind == 9 || kind == 10 ? 1 + random.nextInt(4) : 0;
-            for (int p = 0; p < parts; p++) {
-                int t = anyType();
-                both("part(" + t + ")", () -> x.part(t), () -> m.part(t));
+        for (int k = 10 + random.nextInt(26); k > 0; k--) {
+            Model.T like = m.types.get(random.nextInt(m.types.size()));
+            boolean alike = !like.parts().isEmpty() && random.nextInt(2) == 0;
+            int kind = alike ? like.kind() : random.nextInt(5) == 0 ? any(13) : 8 + random.nextInt(3);
+            for (int t : alike ? partsLikeThoseOf(like) : anyParts(kind)) {
+                next("part(" + t + ")", x -> x.part(t), () -> m.part(t));
             }
             int n = any(4);
-            both("type(" + kind + ", " + n + ")", () -> x.type(kind, n), () -> m.type(kind, n));
-            int t = anyType();
-            int u = anyType();
-            int what = any(9);
-            both("fits(" + t + ", " + u + ")", () -> x.fits(t, u), () -> m.fits(t, u));
-            both("layout(" + t + ", " + what + ")", () -> x.layout(t, what), () -> m.layout(t, what));
-            calls -= parts + 3;
+            next("type(" + kind + ", " + n + ")", x -> x.type(kind, n), () -> m.type(kind, n));
         }
-        calls = 0;
+    }
+
+    private List<Integer> anyParts(int kind) {
+        int count = kind == 8 ? 1 : kind == 9 || kind == 10 ? 1 + random.nextInt(4) : 0;
+        List<Integer> parts = new ArrayList<>();
+        for (int k = 0; k < count; k++) {
+            parts.add(anyType());
+        }
+        return parts;
+    }
+
+    /** So that there are types that fit one another, and are not the same. */
+    private List<Integer> partsLikeThoseOf(Model.T like) {
+        List<Integer> parts = new ArrayList<>();
+        for (Model.T part : like.parts()) {
+            parts.add(fitting(part));
+        }
+        if (like.kind() != 8 && random.nextInt(2) == 0) {
+            parts.add(anyType());
+        } else if (parts.size() > 1 && random.nextInt(2) == 0) {
+            parts.remove(parts.size() - 1);
+        }
+        return parts;
     }
 
     private void step() {
         if (m.stack.isEmpty() && random.nextInt(4) != 0) {
-            int i = any(m.instances.size());
-            both("enter(" + i + ")", () -> {
-                x.enter(i);
-                return 0;
-            }, () -> {
-                m.enter(i);
-                return 0;
-            });
+            int i = random.nextInt(20) == 0 ? any(m.instances.size()) : readyOne();
+            nextWithout("enter(" + i + ")", x -> x.enter(i), () -> m.enter(i));
             return;
         }
         switch (random.nextInt(16)) {
             case 0, 1, 2 -> {
                 int kind = any(random.nextInt(2) + 1);
-                both("make(" + kind + ")", () -> x.make(kind), () -> m.make(kind));
+                next("make(" + kind + ")", x -> x.make(kind), () -> m.make(kind));
             }
             case 3 -> {
                 int h = any(6);
-                both("drop(" + h + ")", () -> x.drop(h) ? 1 : 0, () -> m.drop(h) ? 1 : 0);
+                next("drop(" + h + ")", x -> x.drop(h) ? 1 : 0, () -> m.drop(h) ? 1 : 0);
             }
             case 4, 5, 6, 7, 8 -> call();
             case 9, 10, 11 -> back();
@@ -178,29 +227,25 @@ public final class ModelTest {
         }
     }
 
+    private int readyOne() {
+        int i = random.nextInt(m.instances.size());
+        while (m.instances.get(i).state != 0) {
+            i = (i + 1) % m.instances.size();
+        }
+        return i;
+    }
+
     private void leaveSeldom() {
         if (random.nextInt(3) == 0) {
-            both("leave()", () -> {
-                x.leave();
-                return 0;
-            }, () -> {
-                m.leave();
-                return 0;
-            });
+            nextWithout("leave()", x -> x.leave(), () -> m.leave());
         }
     }
 
     private void seldom() {
         int i = any(6);
         switch (random.nextInt(12)) {
-            case 0 -> both("close(" + i + ")", () -> x.close(i), () -> m.close(i));
-            case 1 -> both("trap()", () -> {
-                x.trap();
-                return 0;
-            }, () -> {
-                m.trap();
-                return 0;
-            });
+            case 0 -> next("close(" + i + ")", x -> x.close(i), () -> m.close(i));
+            case 1 -> nextWithout("trap()", x -> x.trap(), () -> m.trap());
             case 2 -> instance();
             case 3 -> back();
             default -> call();
@@ -212,19 +257,14 @@ public final class ModelTest {
         if (random.nextInt(6) == 0) {
             for (int k = 0; k < 14; k++) {
                 int kind = random.nextInt(2);
-                both("make(" + kind + ")", () -> x.make(kind), () -> m.make(kind));
+                next("make(" + kind + ")", x -> x.make(kind), () -> m.make(kind));
             }
         }
     }
 
     private void write(int i, int at, int n, long w) {
-        both("write(" + i + ", " + at + ", " + n + ", " + w + ")", () -> {
-            x.write(i, at, n, w);
-            return 0;
-        }, () -> {
-            m.write(i, at, n, w);
-            return 0;
-        });
+        nextWithout("write(" + i + ", " + at + ", " + n + ", " + w + ")", x -> x.write(i, at, n, w),
+                () -> m.write(i, at, n, w));
     }
 
     private void call() {
@@ -243,7 +283,7 @@ public final class ModelTest {
         boolean known = f >= 0 && f < m.functions.size();
         int t = known ? fitting(m.functions.get(f).argument()) : anyType();
         int at = laidValue(t);
-        both("call(" + f + ", " + t + ", " + at + ")", () -> x.call(f, t, at), () -> m.call(f, t, at));
+        next("call(" + f + ", " + t + ", " + at + ")", x -> x.call(f, t, at), () -> m.call(f, t, at));
         if (m.stack.size() >= 4) {
             SEEN.merge("deep stack", 1, Integer::sum);
         }
@@ -255,9 +295,13 @@ public final class ModelTest {
 
     private void back() {
         boolean known = m.stack.size() >= 2;
+        if (!known && random.nextInt(20) != 0) {
+            leaveSeldom();
+            return;
+        }
         int t = known ? fitting(m.stack.get(m.stack.size() - 1).function().result()) : anyType();
         int at = laidValue(t);
-        both("back(" + t + ", " + at + ")", () -> x.back(t, at), () -> m.back(t, at));
+        next("back(" + t + ", " + at + ")", x -> x.back(t, at), () -> m.back(t, at));
     }
 
     /** Mostly a type that fits, and of these not always the same one. */
@@ -266,12 +310,17 @@ public final class ModelTest {
             return anyType();
         }
         List<Integer> good = new ArrayList<>();
+        List<Integer> others = new ArrayList<>();
         for (int t = 0; t < m.types.size(); t++) {
             if (m.fits(t, m.types.indexOf(u)) == 0) {
                 good.add(t);
+                if (!m.types.get(t).equals(u)) {
+                    others.add(t);
+                }
             }
         }
-        return good.get(random.nextInt(good.size()));
+        boolean other = !others.isEmpty() && random.nextInt(3) != 0;
+        return other ? others.get(random.nextInt(others.size())) : good.get(random.nextInt(good.size()));
     }
 
     /** Lays a value of a type in the top's memory, mostly a good one: its place. */
@@ -296,7 +345,6 @@ public final class ModelTest {
     private void put(int i, int at, int n, long w) {
         if (at >= 0 && at < 256) {
             write(i, at, n, w);
-            calls--;
         }
     }
 
@@ -369,42 +417,62 @@ public final class ModelTest {
             }
         });
         if (good.isEmpty() && random.nextInt(20) != 0) {
-            both("make(" + t.n() + ")", () -> x.make(t.n()), () -> m.make(t.n()));
+            next("make(" + t.n() + ")", x -> x.make(t.n()), () -> m.make(t.n()));
             m.instances.get(i).handles.keySet().forEach(good::add);
         }
         boolean known = !good.isEmpty() && random.nextInt(30) != 0;
         put(i, at, 1, known ? good.get(random.nextInt(good.size())) : random.nextInt(20));
     }
 
-    private void compareAll() {
-        ask("passed", 0, 0, x.passed(), m.passed());
-        ask("depth", 0, 0, x.depth(), m.depth());
+    private void askAll() {
+        ask("passed()", x -> x.passed(), m::passed);
+        ask("depth()", x -> x.depth(), m::depth);
         for (int k = -1; k <= 6; k++) {
-            ask("level", k, 0, x.level(k), m.level(k));
+            int level = k;
+            ask("level(" + k + ")", x -> x.level(level), () -> m.level(level));
         }
-        for (int k = 0; k < 4; k++) {
-            ask("resources", k, 0, x.resources(k, false), m.resources(k, false));
-            ask("resources gone", k, 0, x.resources(k, true), m.resources(k, true));
-        }
-        for (int what = 0; what < 3; what++) {
-            ask("latest", what, 0, x.latest(what), m.latest(what));
-            for (int i = 0; i < m.instances.size(); i++) {
-                ask("state", i, what, x.state(i, what), m.state(i, what));
-            }
+        for (int k = -1; k <= 4; k++) {
+            int kind = k;
+            ask("resources(" + k + ", false)", x -> x.resources(kind, false), () -> m.resources(kind, false));
+            ask("resources(" + k + ", true)", x -> x.resources(kind, true), () -> m.resources(kind, true));
+            ask("latest(" + k + ")", x -> x.latest(kind), () -> m.latest(kind));
         }
         for (int i = 0; i < m.instances.size(); i++) {
-            for (int at = 0; at < 256; at++) {
-                ask("read", i, at, x.read(i, at), m.read(i, at));
-            }
-            for (int h = 4; h < 68; h++) {
-                ask("handle", i, h, x.handle(i, h / 4, h % 4), m.handle(i, h / 4, h % 4));
-            }
+            askInstance(i);
+        }
+        for (int t = 0; t < m.types.size(); t++) {
+            askType(t);
         }
     }
 
-    private void ask(String call, int i, int k, int got, int due) {
-        if (got != due) {
-            both(call + "(" + i + ", " + k + ")", () -> got, () -> due);
+    private void askInstance(int i) {
+        for (int k = 0; k < 3; k++) {
+            int what = k;
+            ask("state(" + i + ", " + k + ")", x -> x.state(i, what), () -> m.state(i, what));
         }
+        for (int k = 0; k < 256; k++) {
+            int at = k;
+            ask("read(" + i + ", " + k + ")", x -> x.read(i, at), () -> m.read(i, at));
+        }
+        for (int k = 4; k < 68; k++) {
+            int h = k / 4;
+            int what = k % 4;
+            ask("handle(" + i + ", " + h + ", " + what + ")", x -> x.handle(i, h, what), () -> m.handle(i, h, what));
+        }
+    }
+
+    private void askType(int t) {
+        for (int k = 0; k < 10; k++) {
+            int what = k;
+            ask("layout(" + t + ", " + k + ")", x -> x.layout(t, what), () -> m.layout(t, what));
+        }
+        for (int k = 0; k < m.types.size(); k++) {
+            int u = k;
+            ask("fits(" + t + ", " + k + ")", x -> x.fits(t, u), () -> m.fits(t, u));
+        }
+    }
+
+    private void ask(String call, ToLongFunction<HostedCalls> real, LongSupplier model) {
+        questions.add(new Call(call, real, answer(model)));
     }
 }

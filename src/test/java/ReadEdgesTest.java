@@ -35,6 +35,8 @@ public final class ReadEdgesTest {
             recordsByThePartsOfU(asResult);
             variantsByTheirCases(asResult);
             variantsByTheCasesOfT(asResult);
+            choicesInOthersByTheNOfT(asResult);
+            listsInVariantsByThePartOfT(asResult);
             handlesThatAreNotInUse(asResult);
             handlesOfAnotherKind(asResult);
             ownTakesTheHandle(asResult);
@@ -521,6 +523,46 @@ public final class ReadEdgesTest {
                 p.arrived(C, "case " + which, answer);
             } else {
                 p.trapped(C, "case " + which, answer, 2, 50);
+            }
+        }
+    }
+
+    private static void choicesInOthersByTheNOfT(boolean asResult) {
+        C.sentence("CHOICE: less than t's n (in a list, a record or a variant, too), else trap 2");
+        for (int kind = 8; kind <= 10; kind++) {
+            for (int b : new int[] {2, 3, 8}) {
+                Passing p = new Passing(asResult);
+                p.x.part(World.CHOICE_3);
+                int t = p.x.type(kind, 0);
+                p.x.part(World.CHOICE_9);
+                p.begin(p.x.type(kind, 0));
+                int place = kind == 8 ? 40 : kind == 9 ? 20 : 21;
+                p.put(20, kind == 8 ? 40 : 0, 0, kind == 8 ? 1 : 0, 0);
+                p.put(place, b);
+                int answer = p.pass(t, 20);
+                if (b == 2) {
+                    p.arrived(C, "2 of 3 as one of 9 in kind " + kind, answer);
+                } else {
+                    p.trapped(C, b + " of 3 as one of 9 in kind " + kind, answer, 2, place);
+                }
+            }
+        }
+    }
+
+    private static void listsInVariantsByThePartOfT(boolean asResult) {
+        C.sentence("VARIANT: .. then that part at its offset, as an item (of t's part: sizes and alignments)");
+        for (int place : new int[] {16, 17}) {
+            Passing p = new Passing(asResult);
+            int t = p.w.variant(World.BYTE, p.w.list(p.w.record(World.BYTE, World.SHORT)));
+            p.begin(p.w.variant(World.BYTE, p.w.list(p.w.record(World.BYTE))));
+            p.put(6, 1, 0, place, 0, 3, 0);
+            p.put(16, 1, 9, 9, 9, 2, 9, 9, 9, 3, 9);
+            int answer = p.pass(t, 6);
+            if (place == 16) {
+                p.arrived(C, "4 by 4", answer);
+                p.w.memoryIs(C, "1 by 1", p.to, 128, 1, 0, 134, 0, 3, 0, 1, 2, 3, 0);
+            } else {
+                p.trapped(C, "at an odd place", answer, 5, 17);
             }
         }
     }
