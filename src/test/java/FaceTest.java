@@ -34,6 +34,9 @@ public final class FaceTest {
         "int latest(int) IllegalArgument",
     };
 
+    private static final Set<Class<?>> CONSTANTS = Set.of(int.class, long.class, boolean.class, char.class, String.class,
+            int[].class, long[].class, char[].class, byte[].class);
+
     public static void main(String[] args) {
         Checks c = new Checks();
         Class<?> face = HostedCalls.class;
@@ -53,6 +56,9 @@ public final class FaceTest {
             for (Field field : inside.getDeclaredFields()) {
                 fieldIsDue(c, field);
             }
+            for (Method method : inside.getDeclaredMethods()) {
+                c.due("a method inside has a public name: " + method, names().contains(method.getName()), false);
+            }
         }
         c.due("classes", face.getDeclaredClasses().length <= 12, true);
         c.end();
@@ -60,10 +66,7 @@ public final class FaceTest {
 
     private static void methodsAreDue(Checks c, Class<?> face) {
         Set<String> due = new TreeSet<>(Arrays.asList(FACE));
-        Set<String> names = new TreeSet<>();
-        for (String method : FACE) {
-            names.add(method.substring(method.indexOf(' ') + 1, method.indexOf('(')));
-        }
+        Set<String> names = names();
         for (Method method : face.getDeclaredMethods()) {
             String told = told(method);
             if (Modifier.isPrivate(method.getModifiers())) {
@@ -75,6 +78,14 @@ public final class FaceTest {
         for (String missing : due) {
             c.tell("there is no " + missing);
         }
+    }
+
+    private static Set<String> names() {
+        Set<String> names = new TreeSet<>();
+        for (String method : FACE) {
+            names.add(method.substring(method.indexOf(' ') + 1, method.indexOf('(')));
+        }
+        return names;
     }
 
     private static String told(Method method) {
@@ -89,6 +100,8 @@ public final class FaceTest {
     private static void fieldIsDue(Checks c, Field field) {
         if (Modifier.isStatic(field.getModifiers())) {
             c.due("final " + field, Modifier.isFinal(field.getModifiers()), true);
+            boolean constant = CONSTANTS.contains(field.getType()) || field.isEnumConstant() || field.isSynthetic();
+            c.due("a constant " + field, constant, true);
         }
     }
 }
